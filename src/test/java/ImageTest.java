@@ -1,0 +1,119 @@
+/** Promises 18 and 19: image and again. */
+public final class ImageTest {
+    private static final Due DUE = new Due("ImageTest");
+
+    public static void main(String[] args) {
+        whichImages();
+        allIsAsItWas();
+        imagesStandAlone();
+        manyRuns();
+        DUE.finish();
+    }
+
+    private static void whichImages() {
+        DepotMarch march = new DepotMarch();
+        int[] wrong = {-1, 3, Integer.MAX_VALUE, Integer.MIN_VALUE};
+        for (int k : wrong) {
+            DUE.is("image(" + k + ")", march.image(k), false);
+            DUE.is("again(" + k + ")", march.again(k), false);
+        }
+        DUE.is("again(1) without", march.again(1), false);
+        DUE.is("image(1)", march.image(1), true);
+        DUE.is("again(0) without", march.again(0), false);
+        DUE.is("again(2) without", march.again(2), false);
+        DUE.is("again(1)", march.again(1), true);
+        DUE.is("and once more", march.again(1), true);
+    }
+
+    private static void allIsAsItWas() {
+        DepotMarch march = new DepotMarch();
+        march.party(2, 20);
+        march.land(40);
+        march.storm(3, true);
+        Due.orders(march, 0, "take 15;a=5;leave 6;march;b=7;lay 4;rest;leave 8;c=9;back;");
+        march.days(2);
+        march.image(0);
+        Due.put(march, 0, "stay");
+        march.days(2);
+        march.storm(9, true);
+        march.party(3, 30);
+        march.land(9);
+        Due.orders(march, 0, "d=1;");
+        Due.put(march, 0, "stay");
+        march.days(3);
+        DUE.is("again(0)", march.again(0), true);
+        DUE.is("the tape is no part of it", march.end(4), 4);
+        march.end(0);
+        DUE.is("day", march.count(0), 2);
+        DUE.is("parties", march.count(1), 1);
+        DUE.is("lots", march.count(2), 1);
+        DUE.is("lines", march.count(3), 5);
+        DUE.is("line 5", march.line(5, 0), -1);
+        DUE.is("landed", march.count(4), 40);
+        DUE.is("eaten", march.count(5), 4);
+        DUE.is("letter at 1", march.camp(1, 1), -1);
+        DUE.is("letter at 0", march.camp(0, 1), 6);
+        DUE.is("store of 1", march.camp(1, 0), 4);
+        DUE.is("food", march.tell(0, 2), 7);
+        DUE.is("no storm on 9", march.storm(9, false), false);
+        DUE.is("a storm on 3", march.storm(3, true), false);
+        DUE.is("no second party", march.tell(1, 0), -1);
+        DUE.is("b", march.tell(0, 11), 7);
+        DUE.is("c", march.tell(0, 12), 0);
+        march.days(1);
+        DUE.is("its orders go on", march.tell(0, 12), 9);
+        DUE.is("letter at 1", march.camp(1, 1), 8);
+        DUE.is("a party made anew", march.party(1, 5), 1);
+        for (int what = 2; what < 36; what++) {
+            DUE.is("tell(1, " + what + ")", march.tell(1, what), what == 8 ? 1 : 0);
+        }
+        DUE.is("a lot made anew", march.land(3), 1);
+        DUE.is("rations of it", march.lot(1, 0), 3);
+    }
+
+    private static void imagesStandAlone() {
+        DepotMarch march = new DepotMarch();
+        march.image(0);
+        march.days(1);
+        march.image(1);
+        march.days(1);
+        march.image(2);
+        march.days(1);
+        march.again(1);
+        DUE.is("image 1", march.count(0), 1);
+        march.again(2);
+        DUE.is("image 2", march.count(0), 2);
+        march.again(0);
+        DUE.is("image 0", march.count(0), 0);
+        march.days(7);
+        march.image(1);
+        march.again(0);
+        march.again(1);
+        DUE.is("image 1 anew", march.count(0), 7);
+    }
+
+    /** A party takes turns with a store of other lots, so that both come to lie in very many short runs. */
+    private static void manyRuns() {
+        DepotMarch march = new DepotMarch();
+        march.party(1, 200);
+        march.land(100);
+        Due.orders(march, 0, "take 200;while 1{lay 1;take 1;}");
+        march.days(1);
+        for (int i = 0; i < 19; i++) {
+            march.land(500);
+        }
+        march.image(0);
+        march.days(30);
+        int lines = march.count(3);
+        int left = march.lot(7, 1);
+        march.image(1);
+        march.again(0);
+        march.days(30);
+        DUE.is("lines", march.count(3), lines);
+        DUE.is("lot 7", march.lot(7, 1), left);
+        DUE.is("all rations", march.count(5) + march.count(6) + march.count(7), 9600);
+        march.again(1);
+        DUE.is("lot 7", march.lot(7, 1), left);
+        DUE.is("ahead", march.ahead(50, 1), 0);
+    }
+}
