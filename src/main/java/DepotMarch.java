@@ -596,17 +596,10 @@ public final class DepotMarch {
             this.number = number;
         }
 
-        /** Made anew: an image that was taken again may have left another party's numbers here. */
+        /** All else is as new: nobody changes a party before it is made, and a copy takes along those not yet made. */
         void make(int menOfIt, int carryOfIt) {
             men = menOfIt;
             carry = carryOfIt;
-            camp = 0;
-            hunger = 0;
-            stayed = 0;
-            counted = 0;
-            begin(NO_ORDERS);
-            Arrays.fill(names, 0);
-            Arrays.fill(eaten, 0);
         }
 
         void copy(Party from) {
@@ -812,9 +805,9 @@ public final class DepotMarch {
         }
 
         void write(int what, int day, int party, int camp, int lot, int many) {
-            int start = lines * LINE_NUMBERS;
+            int start = kept() * LINE_NUMBERS;
             lines++;
-            if (start < 0 || start + LINE_NUMBERS > numbers.length) {
+            if (start + LINE_NUMBERS > numbers.length) {
                 return;
             }
             numbers[start] = what;

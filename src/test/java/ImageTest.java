@@ -48,6 +48,8 @@ public final class ImageTest {
         DUE.is("parties", march.count(1), 1);
         DUE.is("lots", march.count(2), 1);
         DUE.is("lines", march.count(3), 5);
+        DUE.is("line 3", march.line(3, 0), 2);
+        DUE.is("line 4", march.line(4, 5), 2);
         DUE.is("line 5", march.line(5, 0), -1);
         DUE.is("landed", march.count(4), 40);
         DUE.is("eaten", march.count(5), 4);
@@ -72,6 +74,7 @@ public final class ImageTest {
     }
 
     private static void imagesStandAlone() {
+        linesOfAnImage();
         DepotMarch march = new DepotMarch();
         march.image(0);
         march.days(1);
@@ -92,28 +95,54 @@ public final class ImageTest {
         DUE.is("image 1 anew", march.count(0), 7);
     }
 
-    /** A party takes turns with a store of other lots, so that both come to lie in very many short runs. */
-    private static void manyRuns() {
+    private static void linesOfAnImage() {
         DepotMarch march = new DepotMarch();
-        march.party(1, 200);
-        march.land(100);
-        Due.orders(march, 0, "take 200;while 1{lay 1;take 1;}");
-        march.days(1);
-        for (int i = 0; i < 19; i++) {
-            march.land(500);
-        }
         march.image(0);
-        march.days(30);
-        int lines = march.count(3);
-        int left = march.lot(7, 1);
+        march.land(5);
         march.image(1);
         march.again(0);
-        march.days(30);
-        DUE.is("lines", march.count(3), lines);
-        DUE.is("lot 7", march.lot(7, 1), left);
-        DUE.is("all rations", march.count(5) + march.count(6) + march.count(7), 9600);
+        march.land(7);
+        DUE.is("line of the one", march.line(0, 5), 7);
         march.again(1);
-        DUE.is("lot 7", march.lot(7, 1), left);
-        DUE.is("ahead", march.ahead(50, 1), 0);
+        DUE.is("line of the other", march.line(0, 5), 5);
+    }
+
+    /** Six parties lay a ration each day by day, so that the store comes to lie in very many short runs. */
+    private static void manyRuns() {
+        DepotMarch march = new DepotMarch();
+        for (int i = 0; i < 6; i++) {
+            march.party(1, 200);
+            march.land(200);
+            Due.orders(march, i, "take 200;while 1{lay 1;rest;}");
+        }
+        march.image(0);
+        march.days(50);
+        march.image(1);
+        march.days(40);
+        DUE.is("ahead", march.ahead(10, 2), 600);
+        manyRunsLie(march, 90);
+        march.image(2);
+        march.again(1);
+        manyRunsLie(march, 50);
+        march.again(0);
+        DUE.is("store", march.camp(0, 0), 1200);
+        march.again(2);
+        manyRunsLie(march, 90);
+        int lines = march.count(3);
+        Due.orders(march, 3, "take 100;");
+        march.days(1);
+        DUE.is("a line for each run", march.count(3) - lines, 100 + 5 + 6);
+        DUE.is("the next of them", march.camp(0, 3), 100 % 6);
+        DUE.is("ahead", march.ahead(5, 2), 540 - 100 + 5 + 5 * 5);
+    }
+
+    private static void manyRunsLie(DepotMarch march, int ofEachLot) {
+        DUE.is("store", march.camp(0, 0), 6 * ofEachLot);
+        DUE.is("first", march.camp(0, 3), 0);
+        for (int lot = 0; lot < 6; lot++) {
+            DUE.is("in the store", march.lot(lot, 10), ofEachLot);
+            DUE.is("carried", march.lot(lot, 30 + lot), 200 - 2 * ofEachLot);
+            DUE.is("eaten", march.lot(lot, 40 + lot), ofEachLot);
+        }
     }
 }

@@ -243,6 +243,8 @@ final class Oracle {
         private static final long serialVersionUID = 1L;
     }
 
+    private static final List<String> FIRST_WORDS =
+            List.of("march", "back", "rest", "stop", "take", "lay", "leave", "if", "while");
     private static final List<String> VALUES =
             List.of("food", "store", "room", "camp", "day", "men", "storm", "letter", "hunger");
 
@@ -297,8 +299,7 @@ final class Oracle {
 
         List<S> many(int blocks) throws Wrong {
             List<S> list = new ArrayList<>();
-            while (isName()
-                    || List.of("march", "back", "rest", "stop", "take", "lay", "leave", "if", "while").contains(token)) {
+            while (isName() || FIRST_WORDS.contains(token)) {
                 count++;
                 if (count == 61) {
                     tooMany = place;

@@ -42,15 +42,10 @@ public final class RoomTest {
         DepotMarch march = new DepotMarch();
         for (int i = 0; i < 6; i++) {
             march.party(1, 200);
+            march.land(200);
+            Due.orders(march, i, "take 200;while 1{lay 1;rest;}");
         }
-        march.land(100);
-        for (int i = 0; i < 6; i++) {
-            Due.orders(march, i, "take 200;while 1{lay 1;take 1;}");
-        }
-        march.days(1);
-        for (int i = 0; i < 19; i++) {
-            march.land(500);
-        }
+        march.days(40);
         march.image(0);
         for (int i = 0; i < 160; i++) {
             march.again(0);
@@ -58,7 +53,7 @@ public final class RoomTest {
             march.image(1 + i % 2);
             march.ahead(50, i % 3);
         }
-        DUE.is("rations", march.count(5) + march.count(6) + march.count(7), 9600);
+        DUE.is("rations", march.count(5) + march.count(6) + march.count(7), 1200);
         DUE.is("days, ahead and images", made() - before < ROOM_BYTES / 4, true);
     }
 }

@@ -14,6 +14,7 @@ final class Texts {
         "while hunger<2{take 2;if room{rest;}march;}back;back;back;",
         "take 9;march;lay 4;leave day;march;if letter=0-1{lay 1;}back;take store;back;",
         "while 1{b=0;while b<day%9{b=b+1;take 1;lay 2;}rest;}",
+        "take 90;while 1{lay 1;rest;}",
         "while 1{}",
         "",
     };
