@@ -288,6 +288,7 @@ public final class DaysTest {
         DUE.is("where it is", march.tell(0, 3), 4);
         DUE.is("hunger stays", march.tell(0, 4), 3);
         DUE.is("its latest day", march.tell(0, 9), 1);
+        DUE.is("no days of it", march.tell(0, 7), 0);
         DepotMarch fed = new DepotMarch();
         fed.party(1, 5);
         Due.orders(fed, 0, "rest;rest;take 1;");

@@ -31,7 +31,8 @@ public final class LanguageTest {
     }
 
     private static void forbidden(String code) {
-        String[] never = {"\\bthrows?\\b", "\\btry\\b", "\\bcatch\\b", "\\bsynchronized\\b", "\\bassert\\b", "->", "::", "\\bpackage\\b", "\\bprotected\\b", "Exact\\b", "\\bThread\\b", "\\bSystem\\.(?!arraycopy\\b)",
+        String[] never = {"\\bthrows?\\b", "\\btry\\b", "\\bcatch\\b", "\\bsynchronized\\b", "\\bassert\\b", "->",
+            "::", "\\bpackage\\b", "\\bprotected\\b", "Exact\\b", "\\bThread\\b", "\\bSystem\\.(?!arraycopy\\b)",
             "\\b(float|double)\\b", "\\bstatic\\s*\\{", "\\bhashCode\\b", "\\btoString\\b", "\"\\s*\\+", "\\+\\s*\"",
             "\\bString\\s*\\[", "\\bvar\\b", "\\bimport\\b(?! java\\.util\\.Arrays;)", "[^\\x00-\\x7f]"};
         for (String one : never) {
@@ -69,7 +70,8 @@ public final class LanguageTest {
         for (Method m : c.getDeclaredMethods()) {
             if (!Modifier.isPrivate(m.getModifiers())) {
                 boolean open = Modifier.isPublic(m.getModifiers()) && !Modifier.isStatic(m.getModifiers());
-                visible.add(m.getReturnType() + " " + m.getName() + " " + m.getParameterCount() + (open ? "" : " hidden"));
+                String end = open ? "" : " hidden";
+                visible.add(m.getReturnType() + " " + m.getName() + " " + m.getParameterCount() + end);
             }
         }
         for (Field f : c.getDeclaredFields()) {
