@@ -6,6 +6,9 @@ public final class ImageTest {
         whichImages();
         allIsAsItWas();
         imagesStandAlone();
+        lotsOfTwoImages();
+        daysOfTwoImages();
+        rowsOfAnImage();
         manyRuns();
         DUE.finish();
     }
@@ -105,6 +108,83 @@ public final class ImageTest {
         DUE.is("line of the one", march.line(0, 5), 7);
         march.again(1);
         DUE.is("line of the other", march.line(0, 5), 5);
+    }
+
+    private static void lotsOfTwoImages() {
+        DepotMarch march = new DepotMarch();
+        march.image(0);
+        march.land(5);
+        march.land(6);
+        march.image(1);
+        march.again(0);
+        march.land(70);
+        march.image(2);
+        march.again(1);
+        DUE.is("lots of the one", march.count(2), 2);
+        DUE.is("rations of it", march.lot(0, 0), 5);
+        DUE.is("landed in all", march.count(4), 11);
+        DUE.is("in the store", march.lot(1, 10), 6);
+        march.again(2);
+        DUE.is("lots of the other", march.count(2), 1);
+        DUE.is("rations of it", march.lot(0, 0), 70);
+        DUE.is("landed in all", march.count(4), 70);
+        DUE.is("no second lot", march.lot(1, 0), -1);
+    }
+
+    private static void daysOfTwoImages() {
+        DepotMarch march = new DepotMarch();
+        march.land(50);
+        march.party(2, 20);
+        Due.orders(march, 0, "take 20;leave 3;a=a-1;b=9;march;b=8;rest;stop;");
+        march.image(0);
+        march.days(1);
+        march.image(1);
+        march.days(4);
+        // FOOD, camp, HUNGER, LOST, eaten, stayed, over, counted, a, b
+        int[] atFirst = {0, 0, 0, 0, 0, 0, 0, 0, 0, 0};
+        int[] oneDay = {18, 1, 0, 0, 2, 0, 0, 5, -1, 9};
+        int[] fourDays = {12, 1, 0, 0, 8, 3, 1, 0, -1, 8};
+        int[] fiveDays = {10, 1, 0, 0, 10, 4, 1, 0, -1, 8};
+        tells(march, fiveDays);
+        march.image(2);
+        march.again(1);
+        tells(march, oneDay);
+        march.again(0);
+        tells(march, atFirst);
+        DUE.is("no letter", march.camp(0, 1), -1);
+        march.again(2);
+        tells(march, fiveDays);
+        DUE.is("a letter", march.camp(0, 1), 3);
+        march.again(1);
+        march.days(3);
+        tells(march, fourDays);
+    }
+
+    /** What is told of party 0 from its FOOD to its NAME b. */
+    private static void tells(DepotMarch march, int[] want) {
+        for (int i = 0; i < want.length; i++) {
+            DUE.is("tell(0, " + (2 + i) + ")", march.tell(0, 2 + i), want[i]);
+        }
+    }
+
+    /** A ration that went since the image lies in its row again, and none that comes takes its place. */
+    private static void rowsOfAnImage() {
+        DepotMarch march = new DepotMarch();
+        for (int i = 0; i < 3; i++) {
+            march.land(1);
+        }
+        march.party(1, 1);
+        Due.orders(march, 0, "while 1{take 1;rest;}");
+        march.image(0);
+        march.days(2);
+        march.again(0);
+        march.land(1);
+        for (int lot = 0; lot < 4; lot++) {
+            DUE.is("the first", march.camp(0, 3), lot);
+            march.days(1);
+            DUE.is("it is eaten", march.lot(lot, 40), 1);
+        }
+        DUE.is("none is left", march.camp(0, 0), 0);
     }
 
     /** Six parties lay a ration each day by day, so that the store comes to lie in very many short runs. */

@@ -310,6 +310,9 @@ public final class TextLimitsTest {
         // an E is shut before its BLOCK is open
         good("if " + seven + "{while " + seven + "{z=" + seven + ";}}", 3);
         value("-(".repeat(7) + "5" + ")".repeat(7), -5);
+        // each E has three values waiting
+        value("3=1+2*(".repeat(7) + "7=1+2*3" + ")".repeat(7), 1);
+        value("3=1+2*(".repeat(7) + "7=1+2*4" + ")".repeat(7), 0);
         value("1+(2*(3-(4+(5*(6-(7+(8)))))))", 1 + 2 * (3 - (4 + 5 * (6 - (7 + 8)))));
     }
 
