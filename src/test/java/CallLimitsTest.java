@@ -1,7 +1,7 @@
 import java.util.function.Consumer;
 
 /**
- * The limits that promises 2 to 19 name, a method for each sentence, which stands above it: the last that is taken, the
+ * The limits that promises 1 to 19 name, a method for each sentence, which stands above it: the last that is taken, the
  * first that is not, and that a refused call changes nothing.
  */
 public final class CallLimitsTest {
@@ -11,6 +11,8 @@ public final class CallLimitsTest {
     private static final Twins MIDWAY = new Twins(DUE, CallLimitsTest::midway);
 
     public static void main(String[] args) {
+        aNewObject();
+        aNewParty();
         feedMoreThan500();
         feedPutsItsBytesInTheirOrder();
         endOfSoMany();
@@ -65,7 +67,7 @@ public final class CallLimitsTest {
         Due.orders(march, 2, "take 50;while camp<4{b=b-1;march;lay 2;leave b;}");
         march.image(1);
         march.days(2);
-        Due.orders(march, 0, "rest;rest");
+        Due.orders(march, 2, "rest;rest");
         Due.put(march, 0, "take 2;c=7;march;");
     }
 
@@ -80,6 +82,36 @@ public final class CallLimitsTest {
     private static int feed(DepotMarch march, String text) {
         return march.feed(Due.word(text, 0), Due.word(text, 4), Due.word(text, 8), Due.word(text, 12),
                 Due.word(text, 16));
+    }
+
+    /** No LOTS, no PARTIES, day 0, no STORMS; the tape is empty, no images. */
+    private static void aNewObject() {
+        DepotMarch march = new DepotMarch();
+        for (int what = 0; what <= 8; what++) {
+            DUE.is("count(" + what + ")", march.count(what), 0);
+        }
+        for (int day = 0; day < 400; day++) {
+            DUE.is("no storm on day " + day, march.storm(day, false), false);
+        }
+        for (int k = 0; k < 3; k++) {
+            DUE.is("no image " + k, march.again(k), false);
+        }
+        DUE.is("the tape is empty", march.end(1), -1);
+        DUE.is("the first bytes on it", feed(march, ""), 20);
+    }
+
+    /** PARTIES have ORDERS (none at first), NAMES (0 at first), HUNGER, and are at first at camp 0, with no FOOD. */
+    private static void aNewParty() {
+        DepotMarch march = new DepotMarch();
+        march.land(9);
+        march.days(3);
+        DUE.is("party", march.party(2, 7), 0);
+        for (int what = 0; what < 36; what++) {
+            int want = what == 0 ? 2 : what == 1 ? 7 : what == 8 ? 1 : 0;
+            DUE.is("tell(0, " + what + ")", march.tell(0, what), want);
+        }
+        DUE.is("it is at camp 0", march.camp(0, 2), 1);
+        DUE.is("no line of it", march.count(3), 1);
     }
 
     /** Twenty bytes come behind the tape: how many it has. NONE, and nothing comes, if there would be more than 500. */
