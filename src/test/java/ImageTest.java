@@ -177,6 +177,8 @@ public final class ImageTest {
         Due.orders(march, 0, "while 1{take 1;rest;}");
         march.image(0);
         march.days(2);
+        march.land(1);
+        march.land(1);
         march.again(0);
         march.land(1);
         for (int lot = 0; lot < 4; lot++) {
