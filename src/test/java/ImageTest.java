@@ -8,7 +8,8 @@ public final class ImageTest {
         imagesStandAlone();
         lotsOfTwoImages();
         daysOfTwoImages();
-        rowsOfAnImage();
+        rowsOfAnImage(0);
+        rowsOfAnImage(2);
         manyRuns();
         DUE.finish();
     }
@@ -168,7 +169,7 @@ public final class ImageTest {
     }
 
     /** A ration that went since the image lies in its row again, and none that comes takes its place. */
-    private static void rowsOfAnImage() {
+    private static void rowsOfAnImage(int landedBetween) {
         DepotMarch march = new DepotMarch();
         for (int i = 0; i < 3; i++) {
             march.land(1);
@@ -177,8 +178,9 @@ public final class ImageTest {
         Due.orders(march, 0, "while 1{take 1;rest;}");
         march.image(0);
         march.days(2);
-        march.land(1);
-        march.land(1);
+        for (int i = 0; i < landedBetween; i++) {
+            march.land(1);
+        }
         march.again(0);
         march.land(1);
         for (int lot = 0; lot < 4; lot++) {

@@ -214,6 +214,10 @@ public final class TextLimitsTest {
             good(word + " 1{}", 1);
             good(word + " 1{rest;}", 2);
             bad(word + " {}", n + 1);
+            bad(word + " rest;", n + 1);
+            bad(word + ";", n);
+            bad(word, n);
+            bad(word + " " + word + " 1{}", n + 1);
             bad(word + " 1;", n + 2);
             bad(word + " 1", n + 2);
             bad(word + " 1 rest;", n + 3);
