@@ -823,7 +823,7 @@ public final class DepotMarch {
         }
     }
 
-    /** The TOKENS of a tape; behind them stands its end, or the first place where there is no token. */
+    /** The TOKENS of a tape; what is none stands among them as NO_TOKEN, and the end behind them all. */
     private static final class Tokens {
         private final int[] kinds = new int[TAPE_MOST + 1];
         private final int[] values = new int[TAPE_MOST + 1];
